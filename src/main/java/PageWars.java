@@ -1,5 +1,3 @@
-import java.util.Arrays;
-
 /**
  * A page that some write and others put back to how it was, as the document promises it.
  *
@@ -682,15 +680,17 @@ public final class PageWars {
             if (!texts.has(FIRST_WAY + writer)) {
                 return;
             }
+            // The draw is made whatever comes of it.
             int drawn = draws() % 100;
+            if (!acts.hasRoom()) {
+                return;
+            }
             texts.names(acts.pageSize(), now % DAY, acts.backsBy(writer, now),
                     acts.wordsBy(writer, acts.done), drawn);
             int way = texts.worked(FIRST_WAY + writer);
-            if (acts.hasRoom() && lets(writer)) {
-                int act = goesWay(writer, way);
-                if (act >= 0) {
-                    machineAnswers(act);
-                }
+            int act = lets(writer) ? goesWay(writer, way) : -1;
+            if (act >= 0) {
+                machineAnswers(act);
             }
         }
 
@@ -902,7 +902,9 @@ public final class PageWars {
                 return 100;
             }
             // common[j] tells of the first j WORDS of the other one, so one row is enough.
-            Arrays.fill(common, 0);
+            for (int j = 0; j < common.length; j++) {
+                common[j] = 0;
+            }
             for (int i = 0; i < sizes[one]; i++) {
                 int word = wordAt(one, i);
                 int slant = 0;
@@ -1474,10 +1476,11 @@ public final class PageWars {
         private final int[] numbers = new int[SHEETS * MOST_NUMBERS];
 
         void lays(int sheet, int width, int n) {
-            int begin = sheet * MOST_NUMBERS;
             bits[sheet] = width;
             sizes[sheet] = width == 0 ? 0 : n;
-            Arrays.fill(numbers, begin, begin + MOST_NUMBERS, 0);
+            for (int i = 0; i < sizes[sheet]; i++) {
+                numbers[sheet * MOST_NUMBERS + i] = 0;
+            }
         }
 
         void sets(int sheet, int i, int v) {

@@ -110,6 +110,42 @@ public final class ActsTest {
         Due.is("60 ACTS, an empty PAGE", x.write(1, 0, 1), Due.FULL);
     }
 
+    /** The last ACT's VERSION is the last row that there is room for. */
+    private static void theLastAct() {
+        fresh(3);
+        fillsPage();
+        x.cut(5);
+        for (int i = 21; i < 59; i++) {
+            x.talk(0, 1);
+        }
+        x.image();
+        Due.is("the last ACT", x.write(1, 18, 9), 59);
+        Due.is("its WORD", x.word(60, 18), 9);
+        Due.is("its ORIGIN", x.origin(60, 18), 59);
+        x.restore();
+        Due.is("the last ACT", x.cut(17), 59);
+        Due.is("WORDS", x.count(2), 18);
+        x.restore();
+        Due.is("the last ACT", x.half(0, 20, 19), 59);
+        Due.is("WORDS", x.count(2), 19);
+        x.restore();
+        Due.is("the last ACT", x.write(5, 18, 9), 59);
+        Due.is("its WORD", x.word(60, 18), 9);
+    }
+
+    /** Who MAY is asked of the WRITER in wp, at place 0, too. */
+    private static void writerOfWp() {
+        fresh(3);
+        x.shut(1, 5);
+        Due.is("who shut it writes", x.write(1, 100, 5), 1);
+        Due.is("who shut it mends", x.write(5, 100, 6), 2);
+        Due.is("another one", x.write(1, 200, 5), Due.STATE);
+        Due.promise(4);
+        Due.is("another one", x.cut(200), Due.STATE);
+        Due.is("who shut it takes out", x.cut(100), 3);
+        Due.is("WRITER", x.actIs(3, 1), 1);
+    }
+
     private static void cut() {
         fresh(4);
         x.write(1, 0, 5);
@@ -212,6 +248,10 @@ public final class ActsTest {
         x.untell(0);
         fillsPage();
         Due.is("20 WORDS are no more than 20", x.half(0, 7, 4), x.count(1) - 1);
+        Due.is("20 WORDS", x.count(2), 20);
+        int full = x.count(1);
+        Due.is("one of 20 by one of 20", x.half(0, full, 1), full);
+        Due.is("all of 20 by all of 20", x.half(0, full, 20), full + 1);
         Due.is("20 WORDS", x.count(2), 20);
         fillsActs();
         Due.is("FULL", x.half(0, 0, 0), Due.FULL);
@@ -423,6 +463,8 @@ public final class ActsTest {
         go();
         write();
         writeErrorsInOrder();
+        theLastAct();
+        writerOfWp();
         cut();
         back();
         half();

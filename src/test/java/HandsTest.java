@@ -42,6 +42,28 @@ public final class HandsTest {
         Due.is("both did nothing", x.hand(5, 6), Due.NONE);
     }
 
+    private static void hours() {
+        fresh(28);
+        x.talk(0, 1);
+        x.go(60);
+        x.talk(1, 1);
+        Due.is("MINUTES 0 and 60", x.hand(0, 1), 0);
+        x.go(1379);
+        x.talk(2, 1);
+        Due.is("MINUTES 0 and 1439", x.hand(0, 2), 0);
+        x.go(1);
+        x.talk(3, 1);
+        Due.is("MINUTES 0 and 1440", x.hand(0, 3), 100);
+        Due.is("MINUTES 60 and 1440", x.hand(1, 3), 0);
+        Due.is("MINUTES 1439 and 1440", x.hand(2, 3), 0);
+        x.go(1439);
+        x.talk(4, 1);
+        Due.is("MINUTES 1439 and 2879", x.hand(2, 4), 100);
+        x.go(61);
+        x.talk(5, 1);
+        Due.is("MINUTES 60 and 2940", x.hand(1, 5), 100);
+    }
+
     private static void score() {
         fresh(29);
         Due.is("no ACT", x.score(0, 1), Due.BEYOND);
@@ -95,6 +117,16 @@ public final class HandsTest {
         x.score(3, -1);
         Due.is("a BOYISH one of 0", x.line(5, 5, 0), 0);
         Due.is("costs", x.line(5, 5, 1), 0);
+        x.score(0, 1);
+        x.score(2, 0);
+        Due.is("BOYISH ones of 1 on", x.line(5, 5, 0), 1);
+        Due.is("costs", x.line(5, 5, 1), 0);
+        x.score(0, 50);
+        x.score(2, 50);
+        Due.is("both of 50", x.line(1, 9, 0), 50);
+        Due.is("costs", x.line(1, 9, 1), 1);
+        Due.is("both of 50", x.line(9, 1, 0), 101);
+        Due.is("costs", x.line(9, 1, 1), 1);
         Due.is("x 100", x.line(100, 0, 0), Due.BEYOND);
         Due.is("x -1", x.line(-1, 0, 0), Due.BEYOND);
         Due.is("y 100", x.line(0, 100, 0), Due.BEYOND);
@@ -145,6 +177,17 @@ public final class HandsTest {
         Due.is("value(4)", x.value(4), 7);
         fresh(33);
         Due.is("VERSION 0 alone", x.best(), 0);
+        x.worth(1, 4);
+        x.worth(2, -4);
+        x.write(1, 0, 2);
+        Due.is("VERSION 0 of two", x.best(), 0);
+        x.write(5, 0, 1);
+        Due.is("the latest", x.best(), 2);
+        fresh(33);
+        x.worth(1, 4);
+        x.write(1, 0, 1);
+        x.write(1, 1, 2);
+        Due.is("VERSION 1", x.best(), 1);
     }
 
     private static void got() {
@@ -181,13 +224,12 @@ public final class HandsTest {
         }
         x.go(9999);
         Due.is("below LOW", x.got(0, 9999), -1799820);
-        x.worth(1, -1);
-        x.worth(2, 0);
         Due.is("no ERROR", x.told(1), 0);
     }
 
     public static void main(String[] args) {
         hand();
+        hours();
         score();
         line();
         worth();

@@ -416,7 +416,13 @@ public final class TextsTest {
         Due.page(x, 7, 9, 8);
         x.live(1);
         Due.is("that is their own latest now", x.actIs(7, 3), 7);
-        Due.is("an own ACT counts as no draw for others", x.count(1), 8);
+        fresh(17);
+        Due.text(x, 3, "3");
+        x.write(1, 100, 9);
+        x.write(1, 1, 8);
+        x.live(1);
+        Due.is("to behind the first ACT", x.actIs(2, 3), 1);
+        Due.page(x, 3, 9);
     }
 
     private static void liveRefused() {

@@ -147,16 +147,25 @@ public final class VersionsTest {
         x.write(1, 0, 5);
         x.write(1, 1, 6);
         x.cut(1);
-        Due.is("3 by 4", x.longest(), 3);
+        Due.is("3 by 4, and no other", x.longest(), 3);
         x.write(1, 1, 7);
         x.cut(1);
         Due.is("of like ones the least", x.longest(), 3);
         x.write(1, 1, 7);
         Due.is("4 not by 5, but 6 by 7", x.longest(), 5);
         Due.is("its length", x.war(5, 0), 3);
+        fresh(23);
+        x.talk(0, 1);
+        x.write(1, 0, 5);
+        x.cut(0);
+        Due.is("1 by 2", x.longest(), 1);
     }
 
     private static void stays() {
+        fresh(24);
+        x.write(1, 0, 5);
+        x.go(1);
+        Due.is("MINUTE 0", x.stays(0), 1);
         fresh(24);
         x.go(10);
         x.write(1, 0, 5);
@@ -251,6 +260,18 @@ public final class VersionsTest {
         Due.is("the third one, not a later one", x.writerIs(3, 4), 7);
     }
 
+    private static void offAtOnce() {
+        fresh(25);
+        for (int i = 0; i < 3; i++) {
+            x.write(1, 300, 5);
+            x.cut(400);
+        }
+        Due.is("from MINUTE 0 on", x.writerIs(3, 4), 0);
+        fresh(25);
+        x.back(6, 0);
+        Due.is("a BACK that is ACT 0", x.writerIs(6, 3), 1);
+    }
+
     /** In the order in which they were UNDONE, which is not that in which they were done. */
     private static void offByTime() {
         fresh(25);
@@ -331,6 +352,7 @@ public final class VersionsTest {
         stays();
         writerIs();
         off();
+        offAtOnce();
         offByTime();
         read();
         wrong();

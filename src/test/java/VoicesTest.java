@@ -73,6 +73,7 @@ public final class VoicesTest {
         voice(6, UNDOES, 10, 32, 80, 11, 10);
         voice(6, STAYS, 10, 26, 12, 80, 11, 10);
         voice(6, TELLS, 11, 2 ^ 5, 81, 13);
+        voice(6, TELLS, 20, 0, 81, 13);
         // SHUTTING, n 7
         voice(7, DOES, 10, 0, 70);
         voice(7, UNDOES, 10, 0, 11, 70);
@@ -182,6 +183,12 @@ public final class VoicesTest {
         x.put(2, 1, 0x10007);
         Due.is("32 bits", x.words(2, 0), 1);
         Due.page(x, 4, 5, 6, 7, 8);
+        x.put(0, 0, 0x85);
+        Due.is("the eighth bit", x.words(0, 0), 0);
+        x.put(1, 0, 0x8005);
+        Due.is("the sixteenth bit", x.words(1, 0), 0);
+        x.put(2, 0, 0x80000005);
+        Due.is("the last bit", x.words(2, 0), 0);
     }
 
     private static void numbers(int sheet, int... numbers) {
@@ -292,6 +299,16 @@ public final class VoicesTest {
             x.talk(0, 1);
         }
         Due.is("till 60 ACTS", x.words(0, 0), 3);
+        fresh(40);
+        x.sheet(0, 8, 24);
+        x.sheet(1, 8, 24);
+        for (int i = 0; i < 24; i++) {
+            x.put(0, i, 5);
+            x.put(1, i, 6);
+        }
+        Due.text(x, 1, "1");
+        Due.is("24, and none of the next SHEET", x.words(0, 0), 24);
+        Due.is("each taken back", x.count(1), 48);
     }
 
     private static void image() {
@@ -377,6 +394,50 @@ public final class VoicesTest {
         x.write(1, 0, 9);
         x.restore();
         Due.page(x, 3, 9);
+    }
+
+    private static void imageOfActs() {
+        fresh(42);
+        x.write(1, 300, 5);
+        x.go(2);
+        x.write(4, 401, 6);
+        x.go(3);
+        x.back(2, 1);
+        x.talk(1, 77);
+        x.image();
+        x.write(5, 600, 8);
+        x.cut(0);
+        x.restore();
+        int[][] acts = {{1, 3, 0, 5, -1}, {4, 4, 2, 6, 2}, {2, 2, 5, 1, -1}, {7, 1, 5, 77, -1}};
+        for (int act = 0; act < acts.length; act++) {
+            for (int what = 0; what < acts[act].length; what++) {
+                Due.is("actIs(" + act + ", " + what + ")", x.actIs(act, what), acts[act][what]);
+            }
+        }
+        Due.page(x, 2, 5, 6);
+        Due.page(x, 4, 5);
+        Due.origins(x, 2, 0, 1);
+        Due.is("no ACT 4", x.actIs(4, 0), Due.BEYOND);
+    }
+
+    /** What lay in the rows before a restore() must not be seen behind a shorter PAGE. */
+    private static void nothingShinesThrough() {
+        fresh(42);
+        x.worth(9, 7);
+        x.image();
+        for (int i = 0; i < 20; i++) {
+            x.write(1, i, 9);
+        }
+        x.restore();
+        x.talk(0, 1);
+        x.talk(0, 1);
+        x.write(1, 0, 8);
+        Due.is("value(3)", x.value(3), 0);
+        Due.is("value(2)", x.value(2), 0);
+        Due.is("best()", x.best(), 0);
+        Due.is("writerIs(0, 0)", x.writerIs(0, 0), 1);
+        Due.is("alike(0, 2)", x.alike(0, 2), 1);
+        Due.is("likeness(0, 2)", x.likeness(0, 2), 100);
     }
 
     private static void tell() {
@@ -492,6 +553,8 @@ public final class VoicesTest {
         wordsAndTheMachine();
         image();
         imageOfMuch();
+        imageOfActs();
+        nothingShinesThrough();
         tell();
         check();
         count();
