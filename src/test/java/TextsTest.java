@@ -423,6 +423,11 @@ public final class TextsTest {
         x.live(1);
         Due.is("to behind the first ACT", x.actIs(2, 3), 1);
         Due.page(x, 3, 9);
+        for (int i = 3; i < 59; i++) {
+            x.talk(1, 1);
+        }
+        x.live(1);
+        Due.is("the last ACT of all", x.actIs(59, 3), 3);
     }
 
     private static void liveRefused() {

@@ -154,6 +154,10 @@ public final class VoicesTest {
         x.put(0, 1, 5);
         x.sheet(0, 8, 2);
         Due.is("all 0, so no WORDS", x.words(0, 0), 0);
+        x.sheet(1, 8, 1);
+        x.put(1, 0, 5);
+        x.sheet(0, 8, 24);
+        Due.is("another SHEET stays as it is", x.words(1, 0), 1);
         x.put(0, 0, 5);
         x.sheet(0, 0, 0);
         x.sheet(0, 16, 2);
@@ -438,6 +442,9 @@ public final class VoicesTest {
         Due.is("writerIs(0, 0)", x.writerIs(0, 0), 1);
         Due.is("alike(0, 2)", x.alike(0, 2), 1);
         Due.is("likeness(0, 2)", x.likeness(0, 2), 100);
+        x.write(1, 1, 9);
+        Due.is("likeness(3, 4)", x.likeness(3, 4), 50);
+        Due.is("likeness(4, 3)", x.likeness(4, 3), 50);
     }
 
     private static void tell() {
