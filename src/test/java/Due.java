@@ -9,22 +9,37 @@ final class Due {
 
     private static int right = 0;
     private static int wrong = 0;
-    private static int promise = 0;
+    private static String subject = "";
+    private static Sentences sentences = null;
 
     private Due() {
     }
 
     static void promise(int number) {
-        promise = number;
+        subject = "promise " + number;
+    }
+
+    /** What follows is of a sentence of the document, under a promise (0: Terms). */
+    static void sentence(int promise, String words) {
+        if (sentences == null) {
+            sentences = new Sentences();
+        }
+        subject = (promise == 0 ? "Terms" : "promise " + promise) + ", '" + words + "'";
+        if (!sentences.begins(promise, words)) {
+            wrong++;
+            System.out.println(subject + ": the document has no such sentence");
+        }
     }
 
     static void is(String call, long got, long want) {
+        if (sentences != null) {
+            sentences.looks();
+        }
         if (got == want) {
             right++;
         } else {
             wrong++;
-            System.out.println("promise " + promise + ": " + call + " answered " + got
-                    + ", due is " + want);
+            System.out.println(subject + ": " + call + " answered " + got + ", due is " + want);
         }
     }
 
@@ -61,6 +76,15 @@ final class Due {
             is("origin(" + version + ", " + i + ")", x.origin(version, i), acts[i]);
         }
         is("origin(" + version + ", " + acts.length + ")", x.origin(version, acts.length), BEYOND);
+    }
+
+    /** Each sentence of the document has had an answer looked at. */
+    static void sentencesEnd() {
+        for (String sentence : sentences.withoutTest()) {
+            wrong++;
+            System.out.println("no test for " + sentence);
+        }
+        System.out.println(sentences.number() + " sentences");
     }
 
     static void ends() {
