@@ -16,7 +16,11 @@ final class Due {
     }
 
     static void promise(int number) {
-        subject = "promise " + number;
+        subject("promise " + number);
+    }
+
+    static void subject(String what) {
+        subject = what;
     }
 
     /** What follows is of a sentence of the document, under a promise (0: Terms). */

@@ -471,6 +471,34 @@ final class EdgesOfPages {
         Due.is("60", last.count(1), 60);
     }
 
+    /** The last ACT of all on a PAGE of 20 WORDS: the last row, to its last place. */
+    private static void lastActOfAll() {
+        of(0, "ACTS 0, 1, .. (at most 60), each of a WRITER in a MINUTE, of KINDS: 0 ACT, 1 NEW "
+                + "under ACT, 2 BACK under ACT, 3 HALF under BACK, 4 BOYISH under NEW, 5 MENDING "
+                + "under NEW, 6 SHUTTING under ACT, 7 TALK under ACT");
+        Twins.Call[] calls = {x -> x.cut(0), x -> x.cut(10), x -> x.cut(19), x -> x.back(0, 59),
+            x -> x.back(0, 0), x -> x.half(0, 20, 20), x -> x.half(0, 20, 0), x -> x.half(0, 0, 1),
+            x -> x.write(5, 0, 60), x -> x.write(5, 19, 60), x -> x.talk(0, 1), x -> x.shut(0, 1)};
+        int[] words = {19, 19, 19, 20, 0, 20, 20, 19, 20, 20, 20, 20};
+        int[] last = {20, 20, 19, 20, 0, 20, 20, 20, 20, 60, 20, 20};
+        for (int k = 0; k < calls.length; k++) {
+            x = new PageWars();
+            writes(20);
+            talks(59);
+            Due.is("ACT 59, call " + k, calls[k].on(x), 59);
+            Due.is("WORDS behind call " + k, x.count(2), words[k]);
+            Due.is("the last of them", words[k] == 0 ? 0 : x.word(60, words[k] - 1), last[k]);
+            Due.is("ALIKE with itself", x.alike(60, 60) * 100 + x.likeness(60, 60), 200);
+        }
+        x = new PageWars();
+        writes(19);
+        talks(59);
+        Due.is("the 20th WORD by the 60th ACT", x.write(1, 0, 60), 59);
+        Due.is("the last WORD", x.word(60, 19), 19);
+        Due.is("the first one", x.word(60, 0), 60);
+        Due.is("its ORIGIN", x.origin(60, 0), 59);
+    }
+
     private static void cut() {
         of(4, "An ACT (KIND 0) takes out the WORD at a place: the ACT");
         writes(20);
@@ -730,6 +758,7 @@ final class EdgesOfPages {
         write();
         writeBeyond();
         writeRefused();
+        lastActOfAll();
         cut();
         back();
         half();

@@ -148,6 +148,7 @@ public final class LanguageTest {
     }
 
     public static void main(String[] args) throws IOException {
+        Due.subject("LANGUAGE.md");
         face();
         inside();
         String source = Files.readString(SOURCE, StandardCharsets.UTF_8);

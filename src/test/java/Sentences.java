@@ -22,13 +22,22 @@ final class Sentences {
     private String now = "";
 
     Sentences() {
-        String whole;
+        // Answers are looked at without the document, too.
+        if (Files.exists(DOCUMENT)) {
+            takesAll(read());
+        }
+    }
+
+    private static String read() {
         try {
-            whole = Files.readString(DOCUMENT, StandardCharsets.UTF_8);
+            return Files.readString(DOCUMENT, StandardCharsets.UTF_8);
         } catch (IOException e) {
             throw new UncheckedIOException(e);
         }
-        whole = whole.substring(0, whole.indexOf("## Not promised"));
+    }
+
+    private void takesAll(String document) {
+        String whole = document.substring(0, document.indexOf("## Not promised"));
         int terms = whole.indexOf("## Terms") + "## Terms".length();
         takes(0, whole.substring(terms, whole.indexOf("Ahead of the calls", terms))
                 .replace("```text", "").replace("```", ""));
@@ -56,7 +65,7 @@ final class Sentences {
     /** What comes next is of this sentence; whether the document has it. */
     boolean begins(int promise, String sentence) {
         now = key(promise, sentence);
-        return looked.containsKey(now);
+        return looked.isEmpty() || looked.containsKey(now);
     }
 
     void looks() {
