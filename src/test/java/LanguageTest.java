@@ -17,6 +17,7 @@ import java.util.regex.Pattern;
 /** What can be seen of LANGUAGE.md's rules: the face by reflection, the rest in the source. */
 public final class LanguageTest {
     private static final Path SOURCE = Path.of("src/main/java/PageWars.java");
+    private static final Path DOCUMENT = Path.of("../shared/DOC.md");
     private static final String[] FACE = {
         "go(int)", "write(int,int,int)", "cut(int)", "back(int,int)", "half(int,int,int)",
         "shut(int,int)", "talk(int,int)", "actIs(int,int)", "as(int,int)", "word(int,int)",
@@ -66,6 +67,44 @@ public final class LanguageTest {
         Due.holds("a public one without parameters",
                 Modifier.isPublic(constructors[0].getModifiers())
                 && constructors[0].getParameterCount() == 0);
+    }
+
+    /** The document's own lines of the face, names of parameters and all, stand in the source. */
+    private static void faceOfDocument(String source) throws IOException {
+        String document = Files.readString(DOCUMENT, StandardCharsets.UTF_8);
+        int begin = document.indexOf("public final class PageWars {");
+        String block = document.substring(begin, document.indexOf("```", begin));
+        int lines = 0;
+        for (String line : block.split("\n")) {
+            String head = line.trim();
+            if (head.endsWith(";")) {
+                String due = "\n    " + head.substring(0, head.length() - 1) + " {\n";
+                Due.holds("the document's " + head, source.contains(due));
+                lines++;
+            }
+        }
+        // The constructor, too.
+        Due.is("lines of the document's face", lines, FACE.length + 1);
+    }
+
+    /** The calls stand under the headings that the document gives them, in its order. */
+    private static void headings(String source) throws IOException {
+        Matcher m = Pattern.compile("Ahead of the calls (.*) the interface says: (---- .*)\\.\n")
+                .matcher(Files.readString(DOCUMENT, StandardCharsets.UTF_8));
+        int at = 0;
+        int calls = 0;
+        while (m.find()) {
+            int heading = source.indexOf("\n    // " + m.group(2) + "\n");
+            Due.holds("the heading " + m.group(2), heading > at);
+            at = heading;
+            for (String call : m.group(1).replace("`", "").split(", ")) {
+                int next = source.indexOf("\n    public int " + call + "(");
+                Due.holds(call + " under " + m.group(2), next > at);
+                at = next;
+                calls++;
+            }
+        }
+        Due.is("calls under headings", calls, FACE.length);
     }
 
     private static Set<String> publicNames() {
@@ -152,6 +191,8 @@ public final class LanguageTest {
         face();
         inside();
         String source = Files.readString(SOURCE, StandardCharsets.UTF_8);
+        faceOfDocument(source);
+        headings(source);
         words(withoutComments(source));
         lengths(List.of(source.split("\n")));
         Due.ends();

@@ -1,8 +1,15 @@
+import com.sun.source.tree.ArrayAccessTree;
 import com.sun.source.tree.AssertTree;
+import com.sun.source.tree.AssignmentTree;
 import com.sun.source.tree.BinaryTree;
 import com.sun.source.tree.ClassTree;
 import com.sun.source.tree.CompilationUnitTree;
+import com.sun.source.tree.CompoundAssignmentTree;
+import com.sun.source.tree.DoWhileLoopTree;
+import com.sun.source.tree.ExpressionTree;
+import com.sun.source.tree.ForLoopTree;
 import com.sun.source.tree.LambdaExpressionTree;
+import com.sun.source.tree.LiteralTree;
 import com.sun.source.tree.MemberReferenceTree;
 import com.sun.source.tree.MethodInvocationTree;
 import com.sun.source.tree.MethodTree;
@@ -14,7 +21,9 @@ import com.sun.source.tree.Tree;
 import com.sun.source.tree.TryTree;
 import com.sun.source.tree.TypeCastTree;
 import com.sun.source.tree.VariableTree;
+import com.sun.source.tree.WhileLoopTree;
 import com.sun.source.util.JavacTask;
+import com.sun.source.util.TreePath;
 import com.sun.source.util.TreePathScanner;
 import com.sun.source.util.Trees;
 import java.io.IOException;
@@ -28,10 +37,12 @@ import java.util.Map;
 import java.util.Set;
 import java.util.TreeMap;
 import java.util.TreeSet;
+import java.util.regex.Pattern;
 import javax.lang.model.element.Element;
 import javax.lang.model.element.ExecutableElement;
 import javax.lang.model.element.Modifier;
 import javax.lang.model.element.TypeElement;
+import javax.lang.model.element.VariableElement;
 import javax.lang.model.type.TypeKind;
 import javax.lang.model.type.TypeMirror;
 import javax.tools.JavaCompiler;
@@ -56,6 +67,7 @@ public final class RulesTest extends TreePathScanner<Void, Void> {
     private final CompilationUnitTree unit;
     private final Map<String, Set<String>> calls = new TreeMap<>();
     private final Deque<String> inside = new ArrayDeque<>();
+    private String methodText = "";
 
     private RulesTest(Trees trees, CompilationUnitTree unit) {
         this.trees = trees;
@@ -99,6 +111,7 @@ public final class RulesTest extends TreePathScanner<Void, Void> {
         Due.holds("rule 11: " + name + " is short", lines <= MOST_LINES);
         Due.holds("rule 11: " + name + " has few parameters", tree.getParameters().size() <= 7);
         inside.push(name);
+        methodText = tree.toString();
         super.visitMethod(tree, none);
         inside.pop();
         return null;
@@ -144,9 +157,75 @@ public final class RulesTest extends TreePathScanner<Void, Void> {
         return super.visitNewClass(tree, none);
     }
 
+    /** Rule 9: a loop asks a number against a bound, by < <= > or >=. */
+    private void hasEnd(ExpressionTree condition, Tree tree) {
+        boolean bounded = condition != null && Pattern.compile(" [<>]=? ")
+                .matcher(condition.toString()).find();
+        Due.holds("rule 9: the loop in line " + line(tree) + " has an end", bounded);
+    }
+
+    @Override public Void visitForLoop(ForLoopTree tree, Void none) {
+        hasEnd(tree.getCondition(), tree);
+        return super.visitForLoop(tree, none);
+    }
+
+    @Override public Void visitWhileLoop(WhileLoopTree tree, Void none) {
+        hasEnd(tree.getCondition(), tree);
+        return super.visitWhileLoop(tree, none);
+    }
+
+    @Override public Void visitDoWhileLoop(DoWhileLoopTree tree, Void none) {
+        hasEnd(tree.getCondition(), tree);
+        return super.visitDoWhileLoop(tree, none);
+    }
+
+    /** Rule 7: a divisor is a constant that isn't 0, or is asked against 0 in the same method. */
+    private void isAsked(ExpressionTree divisor, Tree tree) {
+        Object value = constant(divisor);
+        boolean fine = value instanceof Number && ((Number) value).longValue() != 0
+                || value == null && methodText.contains(divisor + " == 0");
+        Due.holds("rule 7: by " + divisor + " in line " + line(tree), fine);
+    }
+
+    private Object constant(ExpressionTree tree) {
+        if (tree instanceof LiteralTree) {
+            return ((LiteralTree) tree).getValue();
+        }
+        Element named = trees.getElement(new TreePath(getCurrentPath(), tree));
+        return named instanceof VariableElement ? ((VariableElement) named).getConstantValue()
+                : null;
+    }
+
+    @Override public Void visitCompoundAssignment(CompoundAssignmentTree tree, Void none) {
+        if (tree.getKind() == Tree.Kind.DIVIDE_ASSIGNMENT
+                || tree.getKind() == Tree.Kind.REMAINDER_ASSIGNMENT) {
+            isAsked(tree.getExpression(), tree);
+        }
+        neverChanged(tree.getVariable());
+        return super.visitCompoundAssignment(tree, none);
+    }
+
+    @Override public Void visitAssignment(AssignmentTree tree, Void none) {
+        neverChanged(tree.getVariable());
+        return super.visitAssignment(tree, none);
+    }
+
+    /** Rule 5: no number of a static row is changed. */
+    private void neverChanged(ExpressionTree variable) {
+        if (variable instanceof ArrayAccessTree) {
+            Element row = trees.getElement(new TreePath(getCurrentPath(),
+                    ((ArrayAccessTree) variable).getExpression()));
+            Due.holds("rule 5: " + variable, row == null
+                    || !row.getModifiers().contains(Modifier.STATIC));
+        }
+    }
+
     @Override public Void visitBinary(BinaryTree tree, Void none) {
+        if (tree.getKind() == Tree.Kind.DIVIDE || tree.getKind() == Tree.Kind.REMAINDER) {
+            isAsked(tree.getRightOperand(), tree);
+        }
         boolean same = tree.getKind() == Tree.Kind.EQUAL_TO || tree.getKind() == Tree.Kind.NOT_EQUAL_TO;
-        TypeMirror left = trees.getTypeMirror(new com.sun.source.util.TreePath(getCurrentPath(),
+        TypeMirror left = trees.getTypeMirror(new TreePath(getCurrentPath(),
                 tree.getLeftOperand()));
         if (left.getKind() == TypeKind.DECLARED) {
             Due.holds("rule 6, 10: " + tree, same && left.toString().startsWith("PageWars"));
